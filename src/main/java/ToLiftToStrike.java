@@ -168,7 +168,9 @@ public final class ToLiftToStrike {
         if (!now.hasRoom()) {
             return refused(ROOM);
         }
-        return now.addPlayer(kind, a);
+        int number = now.count;
+        now.addPlayer(madePlayer(kind, number, a));
+        return number;
     }
 
     public int playerOf(int player, int what) {
@@ -677,6 +679,25 @@ public final class ToLiftToStrike {
         }
     }
 
+    private static Player madePlayer(int kind, int number, int a) {
+        switch (kind) {
+            case STRIKER:
+                return new Striker(number, a);
+            case LIFTER:
+                return new Lifter(number, a);
+            case TALL:
+                return new Tall(number, a);
+            case SMALL:
+                return new Small(number, a);
+            case QUICK:
+                return new Quick(number, a);
+            case LIBERO:
+                return new Libero(number, a);
+            default:
+                return new Player(number, a);
+        }
+    }
+
     // ---- helpers of what comes of it
 
     private int chanceOfDraft() {
@@ -1093,31 +1114,10 @@ public final class ToLiftToStrike {
             return count < players.length;
         }
 
-        int addPlayer(int kind, int a) {
-            int number = count;
-            if (number >= 0 && number < players.length) {
-                players[number] = made(kind, number, a);
+        void addPlayer(Player player) {
+            if (count >= 0 && count < players.length) {
+                players[count] = player;
                 count++;
-            }
-            return number;
-        }
-
-        private static Player made(int kind, int number, int a) {
-            switch (kind) {
-                case STRIKER:
-                    return new Striker(number, a);
-                case LIFTER:
-                    return new Lifter(number, a);
-                case TALL:
-                    return new Tall(number, a);
-                case SMALL:
-                    return new Small(number, a);
-                case QUICK:
-                    return new Quick(number, a);
-                case LIBERO:
-                    return new Libero(number, a);
-                default:
-                    return new Player(number, a);
             }
         }
 
@@ -1375,7 +1375,9 @@ public final class ToLiftToStrike {
         private Row row = null;
         private int place = 0;
         private int fault = NONE;
-        private int number = 0;
+        private int word = WORD_TURN;
+        private int first = 0;
+        private int second = 0;
 
         Text(Team team) {
             this.team = team;
@@ -1389,9 +1391,12 @@ public final class ToLiftToStrike {
             int items = 0;
             boolean more = true;
             while (more && items <= ELEMENTS) {
-                more = tellItem();
-                items += more ? 1 : 0;
-                more = more && goesOn();
+                more = readItem();
+                if (more) {
+                    tellTeam();
+                    items++;
+                    more = goesOn();
+                }
             }
             return items;
         }
@@ -1416,28 +1421,26 @@ public final class ToLiftToStrike {
             return true;
         }
 
-        private boolean tellItem() {
+        private boolean readItem() {
             int start = place;
-            int word = readWord();
-            if (word == NONE) {
+            if (!readWord()) {
                 return false;
             }
             if (word == WORD_PLAYER && !team.hasRoom()) {
                 return faultAt(start);
             }
-            int least = word == WORD_GOAL ? 1 : 0;
-            if (word != WORD_TURN && !readNumber(least, greatestFirst(word))) {
-                return false;
+            if (word == WORD_TURN) {
+                return true;
             }
-            int first = number;
-            if (hasSecond(word) && !readNumber(0, greatestSecond(word))) {
-                return false;
+            first = readNumber(word == WORD_GOAL ? 1 : 0, greatestFirst());
+            if (first == NONE || !hasSecond()) {
+                return first != NONE;
             }
-            tellTeam(word, first, number);
-            return true;
+            second = readNumber(0, word == WORD_ON ? team.count - 1 : 9);
+            return second != NONE;
         }
 
-        private static String word(int which) {
+        private static String lettersOf(int which) {
             switch (which) {
                 case WORD_PLAYER:
                     return "player";
@@ -1459,56 +1462,59 @@ public final class ToLiftToStrike {
         }
 
         /** The letters stand as far as the word does that goes on longest. */
-        private int readWord() {
+        private boolean readWord() {
             int longest = 0;
             for (int which = 0; which < WORDS; which++) {
-                String word = word(which);
-                int letters = lettersOf(word);
-                if (letters == word.length()) {
-                    place += letters;
-                    return which;
+                String letters = lettersOf(which);
+                int standing = standingOf(letters);
+                if (standing == letters.length()) {
+                    word = which;
+                    place += standing;
+                    return true;
                 }
-                longest = Math.max(longest, letters);
+                longest = Math.max(longest, standing);
             }
-            faultAt(place + longest);
-            return NONE;
+            return faultAt(place + longest);
         }
 
-        private int lettersOf(String word) {
-            int letters = 0;
-            while (letters < word.length() && elementAt(place + letters) == word.charAt(letters)) {
-                letters++;
+        private int standingOf(String letters) {
+            int standing = 0;
+            while (standing < letters.length() && elementAt(place + standing) == letters.charAt(standing)) {
+                standing++;
             }
-            return letters;
+            return standing;
         }
 
-        private boolean readNumber(int least, int greatest) {
+        /** A blank and a NUMBER; NONE, and a FAULT, if they don't stand or it may not be. */
+        private int readNumber(int least, int greatest) {
             if (elementAt(place) != ' ') {
-                return faultAt(place);
+                faultAt(place);
+                return NONE;
             }
             int start = place + 1;
             int digits = 0;
-            number = 0;
+            int number = 0;
             while (digits < 4 && isDigit(elementAt(start + digits))) {
                 number = 10 * number + elementAt(start + digits) - '0';
                 digits++;
             }
             if (digits == 0 || number < least || number > greatest) {
-                return faultAt(start);
+                faultAt(start);
+                return NONE;
             }
             place = start + digits;
-            return true;
+            return number;
         }
 
         private static boolean isDigit(int element) {
             return element >= '0' && element <= '9';
         }
 
-        private static boolean hasSecond(int word) {
+        private boolean hasSecond() {
             return word == WORD_PLAYER || word == WORD_ON || word == WORD_SERVE;
         }
 
-        private static int greatestFirst(int word) {
+        private int greatestFirst() {
             switch (word) {
                 case WORD_PLAYER:
                     return KINDS - 1;
@@ -1525,14 +1531,10 @@ public final class ToLiftToStrike {
             }
         }
 
-        private int greatestSecond(int word) {
-            return word == WORD_ON ? team.count - 1 : 9;
-        }
-
-        private void tellTeam(int word, int first, int second) {
+        private void tellTeam() {
             switch (word) {
                 case WORD_PLAYER:
-                    team.addPlayer(first, second);
+                    team.addPlayer(madePlayer(first, team.count, second));
                     break;
                 case WORD_ON:
                     team.moveTo(first, second);
