@@ -511,6 +511,8 @@ public final class PromisesTest {
         due("cut", x.blocked(1, 0), 216);
         x.ask(0, 5);
         due("not set", x.blocked(1, 0), 0);
+        x.ask(0, 1);
+        due("the least block", x.blocked(1, 1), 1000);
         x.ask(0, 0);
         due("no block", x.blocked(1, 1), 0);
         x.ask(0, 30);
@@ -535,6 +537,8 @@ public final class PromisesTest {
         refused(x, c, "force 10", x.side(0, 10), -6);
         refused(x, c, "force -1", x.side(0, -1), -6);
         due("nobody there", new ToLiftToStrike().side(2, 4), 120);
+        ToLiftToStrike y = told("player 0 7;player 2 0;player 2 2;on 0 0;on 1 1;on 2 2;block 27");
+        due("124.99 and 30, cut", y.side(2, 1), 154);
     }
 
     private static void promise24() {
@@ -560,6 +564,10 @@ public final class PromisesTest {
         due("5 is at 5 alone", y.at(3) + y.at(4), -2);
         ToLiftToStrike z = told("player 6 9;player 3 9;player 6 9;player 6 9;player 6 9;player 6 9;block 0;on 0 0;on 1 1;on 2 2;on 3 3;on 4 4;on 5 5");
         due("the tall one, with some force", z.hard(), 16);
+        z = told("player 5 0;player 3 9;player 3 9;player 6 9;player 6 9;player 6 9;block 35",
+            "on 0 0;on 1 1;on 2 2;on 3 3;on 4 4;on 5 5");
+        due("164 with force 1 and 2", z.side(0, 1) * 1000 + z.side(0, 2), 164164);
+        due("the first place, of two forces the less", z.hard(), 1);
     }
 
     private static void promise26() {
@@ -567,6 +575,9 @@ public final class PromisesTest {
         int[] c = counts(x);
         due("no force", x.bold(5), 0);
         due("nobody: all force", x.bold(0), 9);
+        ToLiftToStrike z = told("player 6 0;player 3 0;on 0 0;on 1 1;block 0");
+        due("330 with 0 and 9", z.side(0, 0) * 1000 + z.side(0, 9), 330330);
+        due("of several the least", z.bold(0), 0);
         ToLiftToStrike y = told(SEVEN);
         for (int place = 0; place < 6; place++) due("all force", y.bold(place), 9);
         refused(x, c, "6", x.bold(6), -1);
@@ -586,6 +597,13 @@ public final class PromisesTest {
         refused(x, c, "-1", x.strong(-1), -5);
         ToLiftToStrike y = new ToLiftToStrike();
         due("of several the first", y.strong(0) + y.strong(1), 0);
+        String all = ";on 0 0;on 1 1;on 2 2;on 3 3;on 4 4;on 5 5";
+        y = told("player 3 1;player 1 4;player 5 7;player 4 6;player 1 8;player 1 5" + all, "block 26");
+        due("495, not 494", y.strong(0), 4);
+        y = told("player 2 3;player 5 9;player 0 4;player 2 8;player 4 1;player 0 9" + all, "block 18");
+        due("234, not 235", y.strong(1), 4);
+        y = told("player 1 5;player 1 5;player 1 5" + all.substring(0, 21));
+        due("the last turn", y.turn(1) + y.strong(0), 4);
     }
 
     private static void promise28() {
@@ -720,6 +738,8 @@ public final class PromisesTest {
         due("ones of 2", x.run(0, 2, 1), 2);
         due("noughts of 2", x.run(0, 2, 0), 0);
         due("of none", x.run(0, 0, 1), 0);
+        put(x, 3, 1, 0, 0, 1, 1, 1);
+        due("the last", x.run(3, 5, 1) + 10 * x.run(3, 5, 0), 23);
         due("to the end", x.run(0, 8, 0), 2);
         refused(x, c, "wrong", x.run(0, 11, 0), -6);
         refused(x, c, "sort 2", x.run(0, 1, 2), -6);
@@ -742,6 +762,11 @@ public final class PromisesTest {
         due("none", x.whom(0, 0, 0), -1);
         due("another", x.whom(0, 6, 1), 3);
         due("another", x.whom(0, 1, 1) + x.whom(0, 0, 1), 0);
+        due("another, of two, three and four", x.whom(0, 2, 1) * 100 + x.whom(0, 3, 1) * 10 + x.whom(0, 4, 1), 112);
+        put(x, 4, 0, 0, 0, 6, 6, 6);
+        due("the first too", x.whom(4, 5, 1) * 10 + x.whom(4, 2, 0), 10);
+        due("the first not by often", x.put(0, -1) + x.whom(4, 1, 2), 0);
+        x.put(0, 0);
         due("by often", x.whom(0, 4, 2), 1);
         due("by often: none", x.whom(0, 0, 2), 1);
         due("not on", x.whom(0, 5, 2), 0);
@@ -915,6 +940,8 @@ public final class PromisesTest {
         x.image();
         x.player(0, 0);
         for (int s = 0; s < 3; s++) x.show(s, s);
+        x.show(6, 2);
+        x.show(7, 2);
         x.row(3, 2, 4);
         x.put(0, 2);
         x.rally(0);
@@ -922,10 +949,13 @@ public final class PromisesTest {
         int[] d = counts(x);
         due("restore", x.restore(), 2);
         for (int n = 1; n <= 7; n++) due("refusals stay", x.status(10 + n), d[n]);
+        x.show(5, 2);
+        due("no such one to show", x.holds(5), -1);
         due("the fault stays", x.fault(), 0);
         due("holds", x.holds(0), 0);
         due("holds", x.holds(1), 1);
-        due("no such one now", x.holds(2), -1);
+        due("no such one now", x.holds(2) + x.holds(6) + x.holds(7), -3);
+        due("nothing there now", x.says(7, 0), -3);
         due("a row stays", x.holds(3), 102);
         due("a row stays", x.holds(4), 100);
         floor(x, -1, -1, -1, 1, -1, -1);
