@@ -1338,15 +1338,16 @@ public final class ToLiftToStrike {
 
         /** Cells from first on hold what is due with one POINT more of US, until they are written. */
         private void reckonScore(int first, int breakPoint) {
-            for (int turns = 0; turns < PLACES; turns++) {
-                int won = read(weServe, first + (turns + 1) % PLACES);
-                int lost = read(theyServe, first + PLACES + turns);
-                write(theyServe, first + turns, mean(read(sides, turns), won, lost));
+            int lost = first + PLACES;
+            if (first < 0 || lost + PLACES > weServe.length || lost + PLACES > theyServe.length) {
+                return;
+            }
+            for (int turns = 0; turns < PLACES && turns < sides.length; turns++) {
+                int turned = turns == PLACES - 1 ? 0 : turns + 1;
+                theyServe[first + turns] = mean(sides[turns], weServe[first + turned], theyServe[lost + turns]);
             }
             for (int turns = 0; turns < PLACES; turns++) {
-                int won = read(weServe, first + turns);
-                int lost = read(theyServe, first + PLACES + turns);
-                write(weServe, first + turns, mean(breakPoint, won, lost));
+                weServe[first + turns] = mean(breakPoint, weServe[first + turns], theyServe[lost + turns]);
             }
         }
 
