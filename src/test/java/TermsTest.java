@@ -200,10 +200,10 @@ public final class TermsTest extends Words {
         fault("on 0 0", 5);
         fault("on 0 -1", 5);
         says("turn (a TURN);");
-        told("block 5;serve 1 2");
+        told("block 7;serve 1 2");
         told("player 0 0;on 5 0;turn");
         floor(0, -1, -1, -1, -1, -1);
-        statuses(8, 5);
+        statuses(8, 7);
         statuses(18, 1, 2, 400, 15);
         says("block N;");
         told("serve 1 2;block 3");
